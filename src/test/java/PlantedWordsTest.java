@@ -14,6 +14,7 @@ public final class PlantedWordsTest {
         highestNumberOfAnAccount();
         highestNumberOfTheSlip();
         wordsThatAreNotValid();
+        unopenedWithABalance();
         bestOfFour();
         slipsThatAreFinished();
         slipsThatAreLeft();
@@ -69,6 +70,18 @@ public final class PlantedWordsTest {
             same(x, 4, bad);
             due.is("lost(4)", x.lost(4), 4);
         }
+    }
+
+    private static void unopenedWithABalance() {
+        due.part("unopened, with a balance");
+        FadeLedger x = twoAccounts();
+        Words.plantAll(x, 4, Words.of(9, 0));
+        due.is("total()", x.total(), 110);
+        due.is("balance(4)", x.balance(4), FadeLedger.UNOPENED);
+        due.is("post(4, 1)", x.post(4, 1), NONE);
+        due.is("transfer(4, 5, 1)", x.transfer(4, 5, 1), NONE);
+        due.is("open(4, 3)", x.open(4, 3), 1);
+        due.is("total()", x.total(), 113);
     }
 
     private static void bestOfFour() {
