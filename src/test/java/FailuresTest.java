@@ -1,4 +1,4 @@
-/** Up to three failures between two mounts lose nothing: a post and a transfer are done whole or not at all. */
+/** Up to three failures between two mounts lose nothing: a transfer is done whole or not at all. */
 public final class FailuresTest {
     private static final Due due = new Due();
 
