@@ -1,7 +1,10 @@
 import java.util.Random;
 
-/** Many runs of 512 calls, each compared with the model: every answer, and the whole state behind it. */
+/** Many runs of at most 512 calls, each compared with the model: every answer, and the whole state at the end. */
 public final class ModelTest {
+    private static final int RUNS = 12000;
+    private static final int CALLS_TO_SEE_ALL = 3 + 20 + 80;
+    private static final int MOST_CALLS = 512 - CALLS_TO_SEE_ALL;
     private static final int[] AMOUNTS = {0, 1, 5, 20, -1, -7, 1000, Integer.MAX_VALUE, Integer.MIN_VALUE, 2000000000};
 
     private static final Due due = new Due();
@@ -10,7 +13,7 @@ public final class ModelTest {
     }
 
     public static void main(String[] args) {
-        for (int seed = 0; seed < 3000 && !due.hasWrong(); seed++) {
+        for (int seed = 0; seed < RUNS && !due.hasWrong(); seed++) {
             run(seed);
         }
         due.end();
@@ -18,11 +21,12 @@ public final class ModelTest {
 
     private static void run(int seed) {
         Random random = new Random(seed);
+        int calls = 1 + random.nextInt(seed % 2 == 0 ? MOST_CALLS : 40);
         int accounts = 2 + seed % 15;
         int failures = seed % 5;
         FadeLedger x = new FadeLedger();
         Model m = new Model();
-        for (int call = 0; call < 512 && !due.hasWrong(); call++) {
+        for (int call = 0; call < calls && !due.hasWrong(); call++) {
             due.part("seed " + seed + ", call " + call);
             int a = random.nextInt(40) == 0 ? random.nextInt(24) - 4 : random.nextInt(accounts);
             int b = random.nextInt(40) == 0 ? random.nextInt(24) - 4 : random.nextInt(accounts);
@@ -32,11 +36,13 @@ public final class ModelTest {
                 due.is("failAfter(" + turns + ")", x.failAfter(turns) ? 1 : 0, m.failAfter(turns));
             } else if (!m.on && random.nextInt(3) > 0) {
                 due.is("mount()", x.mount(), m.mount());
+            } else if (random.nextInt(6) == 0) {
+                seeOne(x, m, random.nextInt(4), random.nextInt(4), random.nextInt(20));
             } else {
                 oneCall(x, m, random.nextInt(16), a, b, amount);
             }
-            sameState(x, m);
         }
+        seeAll(x, m);
     }
 
     private static void oneCall(FadeLedger x, Model m, int kind, int a, int b, int amount) {
@@ -53,14 +59,23 @@ public final class ModelTest {
         }
     }
 
-    private static void sameState(FadeLedger x, Model m) {
-        due.is("on()", x.on(), m.on);
-        due.is("done(0)", x.done(0), m.reads);
-        due.is("done(1)", x.done(1), m.writes);
+    private static void seeOne(FadeLedger x, Model m, int kind, int plane, int cell) {
+        switch (kind) {
+            case 0 -> due.is("on()", x.on(), m.on);
+            case 1 -> due.is("done(" + plane % 2 + ")", x.done(plane % 2), plane % 2 == 0 ? m.reads : m.writes);
+            case 2 -> due.is("lost(" + cell + ")", x.lost(cell), m.lost[cell]);
+            default -> due.is("word(" + plane + ", " + cell + ")", x.word(plane, cell), m.planes[plane][cell]);
+        }
+    }
+
+    private static void seeAll(FadeLedger x, Model m) {
+        seeOne(x, m, 0, 0, 0);
+        seeOne(x, m, 1, 0, 0);
+        seeOne(x, m, 1, 1, 0);
         for (int cell = 0; cell < 20; cell++) {
-            due.is("lost(" + cell + ")", x.lost(cell), m.lost[cell]);
+            seeOne(x, m, 2, 0, cell);
             for (int plane = 0; plane < 4; plane++) {
-                due.is("word(" + plane + ", " + cell + ")", x.word(plane, cell), m.planes[plane][cell]);
+                seeOne(x, m, 3, plane, cell);
             }
         }
     }

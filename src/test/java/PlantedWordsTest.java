@@ -1,3 +1,5 @@
+import java.util.function.LongSupplier;
+
 /** The edges that no 512 calls reach (the highest number, odd slips, words of every kind): words are planted. */
 public final class PlantedWordsTest {
     private static final int NONE = FadeLedger.NONE;
@@ -11,8 +13,14 @@ public final class PlantedWordsTest {
     }
 
     public static void main(String[] args) {
-        highestNumberOfAnAccount();
+        if (!Words.canBePlanted()) {
+            System.out.println("NOTHING TESTED: the class has no array 'memory' to plant words in; change Words.plant");
+            return;
+        }
+        highestNumberToPost();
+        highestNumberToTransfer();
         highestNumberOfTheSlip();
+        highestNumberToFinish();
         wordsThatAreNotValid();
         unopenedWithABalance();
         bestOfFour();
@@ -21,34 +29,79 @@ public final class PlantedWordsTest {
         due.end();
     }
 
-    private static void highestNumberOfAnAccount() {
-        due.part("highest number of an account");
+    private static void highestNumberToPost() {
+        due.part("promise 4: its number is below 16777215");
         FadeLedger x = twoAccounts();
         Words.plantAll(x, 2, Words.of(50, TOP - 1));
-        due.is("post(2, 1)", x.post(2, 1), 1);
-        same(x, 2, Words.of(51, TOP));
+        due.is("post(2, -51)", x.post(2, -51), 1);
+        same(x, 2, Words.of(-1, TOP));
         due.is("number(2)", x.number(2), TOP);
-        due.is("post(2, 1)", x.post(2, 1), NONE);
-        due.is("transfer(2, 5, 1)", x.transfer(2, 5, 1), NONE);
-        due.is("transfer(5, 2, 1)", x.transfer(5, 2, 1), NONE);
-        due.is("open(2, 1)", x.open(2, 1), NONE);
-        same(x, 2, Words.of(51, TOP));
+        due.is("balance(2)", x.balance(2), -1);
+        leaves(x, 1, "post(2, 1)", () -> x.post(2, 1));
+        leaves(x, 1, "post(2, 0)", () -> x.post(2, 0));
+        leaves(x, 1, "open(2, 1)", () -> x.open(2, 1));
+    }
+
+    private static void highestNumberToTransfer() {
+        due.part("promise 5: or its number is 16777215");
+        FadeLedger x = twoAccounts();
+        Words.plantAll(x, 2, Words.of(50, TOP));
+        leaves(x, 3, "transfer(2, 5, 1)", () -> x.transfer(2, 5, 1));
+        leaves(x, 3, "transfer(5, 2, 1)", () -> x.transfer(5, 2, 1));
         Words.plantAll(x, 2, Words.of(50, TOP - 1));
         due.is("transfer(2, 5, 50)", x.transfer(2, 5, 50), 1);
         same(x, 2, Words.of(0, TOP));
         same(x, 17, Words.of(TOP, 1));
+        same(x, 18, Words.of(2, 1));
+        FadeLedger y = twoAccounts();
+        Words.plantAll(y, 5, Words.of(50, TOP - 1));
+        due.is("transfer(2, 5, 100)", y.transfer(2, 5, 100), 1);
+        same(y, 5, Words.of(150, TOP));
+        same(y, 17, Words.of(2, 1));
+        same(y, 18, Words.of(TOP, 1));
     }
 
     private static void highestNumberOfTheSlip() {
-        due.part("highest number of the slip");
+        due.part("promise 5: cell 16 .. its number is 16777215");
         FadeLedger x = twoAccounts();
         Words.plantAll(x, 16, Words.of(0, TOP - 1));
         due.is("transfer(2, 5, 1)", x.transfer(2, 5, 1), 1);
         same(x, 16, Words.of(1, TOP));
+        same(x, 17, Words.of(2, TOP));
+        same(x, 18, Words.of(2, TOP));
         same(x, 19, Words.of(FINISHED, TOP));
-        due.is("transfer(2, 5, 1)", x.transfer(2, 5, 1), NONE);
+        leaves(x, 3, "transfer(2, 5, 1)", () -> x.transfer(2, 5, 1));
         same(x, 2, Words.of(99, 2));
         due.is("mount()", x.mount(), 1);
+        leaves(x, 3, "transfer(2, 5, 0)", () -> x.transfer(2, 5, 0));
+    }
+
+    private static void highestNumberToFinish() {
+        due.part("promise 10: a slip with the highest numbers");
+        FadeLedger x = twoAccounts();
+        Words.plantAll(x, 2, Words.of(50, TOP - 1));
+        Words.plantAll(x, 5, Words.of(60, TOP));
+        Words.plantAll(x, 16, Words.of(50, TOP));
+        Words.plantAll(x, 17, Words.of(TOP, TOP));
+        Words.plantAll(x, 18, Words.of(TOP, TOP));
+        Words.plantAll(x, 19, Words.of(PENDING, TOP));
+        due.is("mount()", x.mount(), 1);
+        same(x, 2, Words.of(0, TOP));
+        same(x, 5, Words.of(60, TOP));
+        same(x, 19, Words.of(FINISHED, TOP));
+    }
+
+    /** A call that is refused with so many looks and leaves the words as they are. */
+    private static void leaves(FadeLedger x, int looks, String call, LongSupplier run) {
+        long[] before = planeZero(x);
+        int reads = x.done(0);
+        int writes = x.done(1);
+        due.answers(call, run, NONE);
+        due.is(call + ": done(0)", x.done(0), reads + looks);
+        due.is(call + ": done(1)", x.done(1), writes + looks);
+        for (int cell = 0; cell < 20; cell++) {
+            due.is(call + ": word(0, " + cell + ")", x.word(0, cell), before[cell]);
+        }
     }
 
     private static void wordsThatAreNotValid() {
@@ -158,7 +211,9 @@ public final class PlantedWordsTest {
 
     private static void slipsThatAreLeft() {
         due.part("slips that are left");
-        for (int route : new int[] {FINISHED, 0, 2 * 256 + 5, 65536 + 16 * 256 + 5, 65536 + 2 * 256 + 16, 65536 + 255 * 256 + 255}) {
+        int[] routes = {FINISHED, 0, 2 * 256 + 5, 65536 + 16 * 256 + 5, 65536 + 2 * 256 + 16, 65536 + 128 * 256 + 5,
+            65536 + 2 * 256 + 128, 65536 + 255 * 256 + 255};
+        for (int route : routes) {
             FadeLedger x = twoAccounts();
             plantSlip(x, 30, 8, 9, route);
             leftAsItIs(x);
@@ -178,16 +233,21 @@ public final class PlantedWordsTest {
     }
 
     private static void leftAsItIs(FadeLedger x) {
-        long[] before = new long[20];
-        for (int cell = 0; cell < 20; cell++) {
-            before[cell] = x.word(0, cell);
-        }
+        long[] before = planeZero(x);
         int writes = x.done(1);
         due.is("mount()", x.mount(), 1);
         due.is("done(1)", x.done(1), writes + 80);
         for (int cell = 0; cell < 20; cell++) {
             same(x, cell, before[cell]);
         }
+    }
+
+    private static long[] planeZero(FadeLedger x) {
+        long[] words = new long[20];
+        for (int cell = 0; cell < 20; cell++) {
+            words[cell] = x.word(0, cell);
+        }
+        return words;
     }
 
     private static FadeLedger twoAccounts() {

@@ -6,7 +6,7 @@ public final class PromisesTest {
     private static final int MIN = Integer.MIN_VALUE;
     private static final int[] NO_ACCOUNTS = {-1, 16, 19, 20, 256, MAX, MIN};
 
-    private static final Due due = new Due();
+    private static final LedgerDue due = new LedgerDue();
 
     private PromisesTest() {
     }
@@ -34,12 +34,12 @@ public final class PromisesTest {
 
     private static void newObject() {
         due.part("promise 1");
-        FadeLedger x = new FadeLedger();
+        Ledger x = new Ledger();
         due.is("on()", x.on(), true);
         due.is("done(0)", x.done(0), 0);
         due.is("done(1)", x.done(1), 0);
         for (int cell = 0; cell < 20; cell++) {
-            allPlanes(x, cell, Words.of(0, 0));
+            due.allPlanes(x, cell, Words.of(0, 0));
             due.is("lost", x.lost(cell), 0);
         }
         due.is("total()", x.total(), 0);
@@ -47,22 +47,22 @@ public final class PromisesTest {
 
     private static void open() {
         due.part("promise 2");
-        FadeLedger x = new FadeLedger();
+        Ledger x = new Ledger();
         due.is("open(0, 7)", x.open(0, 7), 1);
-        turns(x, 1, 4);
-        allPlanes(x, 0, Words.of(7, 1));
+        due.turns(x, 1, 4);
+        due.allPlanes(x, 0, Words.of(7, 1));
         due.is("open again", x.open(0, 8), NONE);
-        turns(x, 2, 5);
-        allPlanes(x, 0, Words.of(7, 1));
+        due.turns(x, 2, 5);
+        due.allPlanes(x, 0, Words.of(7, 1));
         due.is("open(15, MIN)", x.open(15, MIN), 1);
-        allPlanes(x, 15, Words.of(MIN, 1));
+        due.allPlanes(x, 15, Words.of(MIN, 1));
         due.is("balance(15)", x.balance(15), MIN);
         due.is("open(14, MAX)", x.open(14, MAX), 1);
-        allPlanes(x, 14, Words.of(MAX, 1));
+        due.allPlanes(x, 14, Words.of(MAX, 1));
         due.is("open(13, 0)", x.open(13, 0), 1);
         due.is("balance(13)", x.balance(13), 0);
         for (int turn = 0; turn < 5; turn++) {
-            FadeLedger y = new FadeLedger();
+            Ledger y = new Ledger();
             y.failAfter(turn);
             due.is("open with failAfter", y.open(3, 5), OFF);
             due.is("on()", y.on(), false);
@@ -71,62 +71,62 @@ public final class PromisesTest {
                 due.is("word", y.word(plane, 3), plane < turn - 1 ? Words.of(5, 1) : old);
             }
         }
-        FadeLedger z = new FadeLedger();
+        Ledger z = new Ledger();
         z.failAfter(5);
         due.is("open with enough turns", z.open(3, 5), 1);
-        noAccount("open", account -> (long) new FadeLedger().open(account, 1), NONE);
+        noAccount("open", account -> (long) new Ledger().open(account, 1), NONE);
         noTurn("open", (ledger, account) -> ledger.open(account, 1), NONE);
         lostAccount("open", (ledger, account) -> ledger.open(account, 1), NONE);
     }
 
     private static void balance() {
         due.part("promise 3");
-        FadeLedger x = new FadeLedger();
+        Ledger x = new Ledger();
         due.is("balance(4)", x.balance(4), FadeLedger.UNOPENED);
-        turns(x, 1, 1);
+        due.turns(x, 1, 1);
         x.open(4, -12);
         due.is("balance(4)", x.balance(4), -12);
-        turns(x, 3, 6);
-        allPlanes(x, 4, Words.of(-12, 1));
+        due.turns(x, 3, 6);
+        due.allPlanes(x, 4, Words.of(-12, 1));
         x.failAfter(0);
         due.is("balance, failing at the read", x.balance(4), FadeLedger.DARK);
-        allPlanes(x, 4, Words.of(-12, 1));
+        due.allPlanes(x, 4, Words.of(-12, 1));
         due.is("balance, power off", x.balance(4), FadeLedger.DARK);
         x.mount();
         x.failAfter(1);
         due.is("balance, failing at the write", x.balance(4), FadeLedger.DARK);
         due.is("word(0, 4)", x.word(0, 4), 0);
         due.is("word(1, 4)", x.word(1, 4), Words.of(-12, 1));
-        noAccount("balance", account -> new FadeLedger().balance(account), FadeLedger.NOWHERE);
-        noTurn("balance", FadeLedger::balance, FadeLedger.NOWHERE);
-        lostAccount("balance", FadeLedger::balance, FadeLedger.LOST);
+        noAccount("balance", account -> new Ledger().balance(account), FadeLedger.NOWHERE);
+        noTurn("balance", Ledger::balance, FadeLedger.NOWHERE);
+        lostAccount("balance", Ledger::balance, FadeLedger.LOST);
     }
 
     private static void post() {
         due.part("promise 4");
-        FadeLedger x = new FadeLedger();
+        Ledger x = new Ledger();
         due.is("post to an unopened one", x.post(2, 5), NONE);
-        turns(x, 1, 1);
-        allPlanes(x, 2, Words.of(0, 0));
+        due.turns(x, 1, 1);
+        due.allPlanes(x, 2, Words.of(0, 0));
         x.open(2, 100);
         due.is("post(2, -101)", x.post(2, -101), 1);
-        turns(x, 3, 9);
-        allPlanes(x, 2, Words.of(-1, 2));
+        due.turns(x, 3, 9);
+        due.allPlanes(x, 2, Words.of(-1, 2));
         due.is("post(2, MIN)", x.post(2, MIN), NONE);
-        turns(x, 4, 10);
-        allPlanes(x, 2, Words.of(-1, 2));
+        due.turns(x, 4, 10);
+        due.allPlanes(x, 2, Words.of(-1, 2));
         due.is("post(2, MIN + 1)", x.post(2, MIN + 1), 1);
-        allPlanes(x, 2, Words.of(MIN, 3));
+        due.allPlanes(x, 2, Words.of(MIN, 3));
         due.is("post(2, -1)", x.post(2, -1), NONE);
         due.is("post(2, MAX)", x.post(2, MAX), 1);
         due.is("post(2, MAX)", x.post(2, MAX), 1);
         due.is("post(2, 1)", x.post(2, 1), 1);
-        allPlanes(x, 2, Words.of(MAX, 6));
+        due.allPlanes(x, 2, Words.of(MAX, 6));
         due.is("post(2, 1)", x.post(2, 1), NONE);
         due.is("post(2, 0)", x.post(2, 0), 1);
-        allPlanes(x, 2, Words.of(MAX, 7));
+        due.allPlanes(x, 2, Words.of(MAX, 7));
         for (int turn = 0; turn < 5; turn++) {
-            FadeLedger y = new FadeLedger();
+            Ledger y = new Ledger();
             y.open(1, 1);
             y.failAfter(turn);
             due.is("post with failAfter", y.post(1, 4), OFF);
@@ -136,36 +136,36 @@ public final class PromisesTest {
             }
             due.is("post, power off", y.post(1, 4), OFF);
         }
-        noAccount("post", account -> (long) new FadeLedger().post(account, 1), NONE);
+        noAccount("post", account -> (long) new Ledger().post(account, 1), NONE);
         noTurn("post", (ledger, account) -> ledger.post(account, 1), NONE);
         lostAccount("post", (ledger, account) -> ledger.post(account, 1), NONE);
     }
 
     private static void transfer() {
         due.part("promise 5");
-        FadeLedger x = new FadeLedger();
+        Ledger x = new Ledger();
         x.open(15, 30);
         x.open(3, -5);
         x.post(3, 1);
         due.is("transfer(15, 3, 30)", x.transfer(15, 3, 30), 1);
-        allPlanes(x, 15, Words.of(0, 2));
-        allPlanes(x, 3, Words.of(26, 3));
-        allPlanes(x, 16, Words.of(30, 1));
-        allPlanes(x, 17, Words.of(2, 1));
-        allPlanes(x, 18, Words.of(3, 1));
-        allPlanes(x, 19, Words.of(131072 + 15 * 256 + 3, 1));
-        turns(x, 3 + 3, 4 + 4 + 4 + 3 + 28);
+        due.allPlanes(x, 15, Words.of(0, 2));
+        due.allPlanes(x, 3, Words.of(26, 3));
+        due.allPlanes(x, 16, Words.of(30, 1));
+        due.allPlanes(x, 17, Words.of(2, 1));
+        due.allPlanes(x, 18, Words.of(3, 1));
+        due.allPlanes(x, 19, Words.of(131072 + 15 * 256 + 3, 1));
+        due.turns(x, 3 + 3, 4 + 4 + 4 + 3 + 28);
         due.is("transfer(3, 15, 0)", x.transfer(3, 15, 0), 1);
-        allPlanes(x, 15, Words.of(0, 3));
-        allPlanes(x, 3, Words.of(26, 4));
-        allPlanes(x, 16, Words.of(0, 2));
-        allPlanes(x, 17, Words.of(4, 2));
-        allPlanes(x, 18, Words.of(3, 2));
-        allPlanes(x, 19, Words.of(131072 + 3 * 256 + 15, 2));
+        due.allPlanes(x, 15, Words.of(0, 3));
+        due.allPlanes(x, 3, Words.of(26, 4));
+        due.allPlanes(x, 16, Words.of(0, 2));
+        due.allPlanes(x, 17, Words.of(4, 2));
+        due.allPlanes(x, 18, Words.of(3, 2));
+        due.allPlanes(x, 19, Words.of(131072 + 3 * 256 + 15, 2));
     }
 
     private static void transferRefused() {
-        FadeLedger x = new FadeLedger();
+        Ledger x = new Ledger();
         x.open(0, 10);
         x.open(1, MAX - 4);
         x.open(2, -8);
@@ -193,19 +193,19 @@ public final class PromisesTest {
         refusedAtOnce(x, 0, 1, -1);
         refusedAtOnce(x, 16, 1, 1);
 
-        FadeLedger y = new FadeLedger();
+        Ledger y = new Ledger();
         y.open(0, 5);
         y.open(1, 5);
         y.open(2, 5);
-        loseCell(y, 1);
+        due.loseCell(y, 1);
         refusedAfterLooking(y, 0, 1, 1);
         refusedAfterLooking(y, 1, 0, 1);
         due.is("transfer(0, 2, 1)", y.transfer(0, 2, 1), 1);
-        loseCell(y, 17);
-        loseCell(y, 18);
-        loseCell(y, 19);
+        due.loseCell(y, 17);
+        due.loseCell(y, 18);
+        due.loseCell(y, 19);
         due.is("transfer(0, 2, 1)", y.transfer(0, 2, 1), 1);
-        loseCell(y, 16);
+        due.loseCell(y, 16);
         refusedAfterLooking(y, 0, 2, 1);
     }
 
@@ -216,10 +216,10 @@ public final class PromisesTest {
             {6, Words.of(11, 2)}, {11, Words.of(39, 2)}, {19, Words.of(131072 + 6 * 256 + 11, 1)}};
         int[] looks = {6, 11, 16};
         for (int turn = 0; turn <= 34; turn++) {
-            FadeLedger x = new FadeLedger();
+            Ledger x = new Ledger();
             x.open(6, 20);
             x.open(11, 30);
-            long[][] want = wordsOf(x);
+            long[][] want = LedgerDue.wordsOf(x);
             for (int i = 0; i < 3; i++) {
                 if (turn == 2 * i + 1) {
                     want[0][looks[i]] = 0;
@@ -232,24 +232,24 @@ public final class PromisesTest {
             due.is("transfer, failAfter " + turn, x.transfer(6, 11, 9), turn < 34 ? OFF : 1);
             due.is("on()", x.on(), turn == 34);
             due.is("done", x.done(0) + x.done(1), 10 + turn);
-            sameWords("transfer, failAfter " + turn, x, want);
+            due.sameWords("transfer, failAfter " + turn, x, want);
         }
     }
 
     private static void total() {
         due.part("promise 6");
-        FadeLedger x = new FadeLedger();
+        Ledger x = new Ledger();
         for (int account = 0; account < 16; account++) {
             x.open(account, MAX);
         }
         due.is("total()", x.total(), 16L * MAX);
-        turns(x, 32, 64 + 16);
-        FadeLedger y = new FadeLedger();
+        due.turns(x, 32, 64 + 16);
+        Ledger y = new Ledger();
         y.open(0, MIN);
         y.open(7, MIN);
         y.open(15, -1);
         due.is("total()", y.total(), 2L * MIN - 1);
-        loseCell(y, 7);
+        due.loseCell(y, 7);
         due.is("total() without a lost one", y.total(), (long) MIN - 1);
         y.transfer(0, 15, 0);
         y.failAfter(31);
@@ -268,9 +268,9 @@ public final class PromisesTest {
 
     private static void number() {
         due.part("promise 7");
-        FadeLedger x = new FadeLedger();
+        Ledger x = new Ledger();
         due.is("number(9)", x.number(9), 0);
-        turns(x, 1, 1);
+        due.turns(x, 1, 1);
         x.open(9, 5);
         due.is("number(9)", x.number(9), 1);
         x.post(9, 5);
@@ -280,14 +280,14 @@ public final class PromisesTest {
         due.is("number, failing at the write", x.number(9), OFF);
         due.is("word(0, 9)", x.word(0, 9), 0);
         due.is("number, power off", x.number(9), OFF);
-        noAccount("number", account -> (long) new FadeLedger().number(account), NONE);
-        noTurn("number", FadeLedger::number, NONE);
-        lostAccount("number", FadeLedger::number, NONE);
+        noAccount("number", account -> (long) new Ledger().number(account), NONE);
+        noTurn("number", Ledger::number, NONE);
+        lostAccount("number", Ledger::number, NONE);
     }
 
     private static void failAfter() {
         due.part("promise 8");
-        FadeLedger x = new FadeLedger();
+        Ledger x = new Ledger();
         due.is("failAfter(-1)", x.failAfter(-1), false);
         due.is("failAfter(MIN)", x.failAfter(MIN), false);
         due.is("balance(0)", x.balance(0), FadeLedger.UNOPENED);
@@ -321,7 +321,7 @@ public final class PromisesTest {
 
     private static void fail() {
         due.part("promise 9");
-        FadeLedger x = new FadeLedger();
+        Ledger x = new Ledger();
         x.failAfter(3);
         due.is("fail()", x.fail(), true);
         due.is("on()", x.on(), false);
@@ -340,27 +340,27 @@ public final class PromisesTest {
 
     private static void mount() {
         due.part("promise 10");
-        FadeLedger x = new FadeLedger();
+        Ledger x = new Ledger();
         due.is("mount(), power on", x.mount(), 1);
-        turns(x, 80, 80);
+        due.turns(x, 80, 80);
         x.open(0, 1);
         x.failAfter(3);
         due.is("post(0, 4)", x.post(0, 4), OFF);
         due.is("word(1, 0)", x.word(1, 0), Words.of(5, 2));
         due.is("word(2, 0)", x.word(2, 0), Words.of(1, 1));
         due.is("mount()", x.mount(), 1);
-        allPlanes(x, 0, Words.of(5, 2));
-        turns(x, 80 + 1 + 1 + 80, 80 + 4 + 2 + 80 + 2);
+        due.allPlanes(x, 0, Words.of(5, 2));
+        due.turns(x, 80 + 1 + 1 + 80, 80 + 4 + 2 + 80 + 2);
         x.failAfter(1);
         x.post(0, 4);
         due.is("mount()", x.mount(), 1);
-        allPlanes(x, 0, Words.of(5, 2));
+        due.allPlanes(x, 0, Words.of(5, 2));
         x.failAfter(2);
         x.post(0, 4);
         x.failAfter(1);
         due.is("mount(), losing the only new word", x.mount(), OFF);
         due.is("mount()", x.mount(), 1);
-        allPlanes(x, 0, Words.of(5, 2));
+        due.allPlanes(x, 0, Words.of(5, 2));
         x.failAfter(2);
         x.post(0, 4);
         x.failAfter(9);
@@ -369,9 +369,9 @@ public final class PromisesTest {
         due.is("word(1, 0)", x.word(1, 0), Words.of(9, 3));
         due.is("word(2, 0)", x.word(2, 0), Words.of(5, 2));
         due.is("mount()", x.mount(), 1);
-        allPlanes(x, 0, Words.of(9, 3));
-        loseCell(x, 0);
-        allPlanes(x, 0, 0);
+        due.allPlanes(x, 0, Words.of(9, 3));
+        due.loseCell(x, 0);
+        due.allPlanes(x, 0, 0);
         int writes = x.done(1);
         due.is("mount() with a lost cell", x.mount(), 1);
         due.is("done(1)", x.done(1), writes + 80);
@@ -383,7 +383,7 @@ public final class PromisesTest {
 
     private static void mountFinishesSlip() {
         for (int turn = 0; turn < 34; turn++) {
-            FadeLedger x = new FadeLedger();
+            Ledger x = new Ledger();
             x.open(6, 20);
             x.open(11, 30);
             x.failAfter(turn);
@@ -392,41 +392,41 @@ public final class PromisesTest {
             due.is("mount()", x.mount(), 1);
             due.is("done(0)", x.done(0), reads + 80);
             boolean moved = turn > 18;
-            allPlanes(x, 6, moved ? Words.of(11, 2) : Words.of(20, 1));
-            allPlanes(x, 11, moved ? Words.of(39, 2) : Words.of(30, 1));
-            allPlanes(x, 19, moved ? Words.of(131072 + 6 * 256 + 11, 1) : Words.of(0, 0));
+            due.allPlanes(x, 6, moved ? Words.of(11, 2) : Words.of(20, 1));
+            due.allPlanes(x, 11, moved ? Words.of(39, 2) : Words.of(30, 1));
+            due.allPlanes(x, 19, moved ? Words.of(131072 + 6 * 256 + 11, 1) : Words.of(0, 0));
         }
-        FadeLedger y = pendingAfterSlip();
+        Ledger y = pendingAfterSlip();
         int writes = y.done(1);
         y.failAfter(166);
         due.is("mount(), failing while it finishes", y.mount(), OFF);
         due.is("done(1)", y.done(1), writes + 86);
-        allPlanes(y, 6, Words.of(11, 2));
+        due.allPlanes(y, 6, Words.of(11, 2));
         due.is("word(1, 11)", y.word(1, 11), Words.of(39, 2));
         due.is("word(2, 11)", y.word(2, 11), Words.of(30, 1));
         due.is("mount()", y.mount(), 1);
         due.is("done(1)", y.done(1), writes + 86 + 80 + 2 + 4);
-        allPlanes(y, 11, Words.of(39, 2));
-        allPlanes(y, 19, Words.of(131072 + 6 * 256 + 11, 1));
+        due.allPlanes(y, 11, Words.of(39, 2));
+        due.allPlanes(y, 19, Words.of(131072 + 6 * 256 + 11, 1));
 
-        FadeLedger z = pendingAfterSlip();
-        loseCellUnmounted(z, 6);
+        Ledger z = pendingAfterSlip();
+        due.wearCell(z, 6, 4);
         due.is("mount() with the first account lost", z.mount(), 1);
-        allPlanes(z, 6, 0);
-        allPlanes(z, 11, Words.of(39, 2));
-        allPlanes(z, 19, Words.of(131072 + 6 * 256 + 11, 1));
+        due.allPlanes(z, 6, 0);
+        due.allPlanes(z, 11, Words.of(39, 2));
+        due.allPlanes(z, 19, Words.of(131072 + 6 * 256 + 11, 1));
 
-        FadeLedger v = pendingAfterSlip();
-        loseCellUnmounted(v, 18);
+        Ledger v = pendingAfterSlip();
+        due.wearCell(v, 18, 4);
         due.is("mount() with a slip's cell lost", v.mount(), 1);
-        allPlanes(v, 6, Words.of(20, 1));
-        allPlanes(v, 11, Words.of(30, 1));
-        allPlanes(v, 19, Words.of(65536 + 6 * 256 + 11, 1));
+        due.allPlanes(v, 6, Words.of(20, 1));
+        due.allPlanes(v, 11, Words.of(30, 1));
+        due.allPlanes(v, 19, Words.of(65536 + 6 * 256 + 11, 1));
     }
 
     private static void on() {
         due.part("promise 11");
-        FadeLedger x = new FadeLedger();
+        Ledger x = new Ledger();
         due.is("on()", x.on(), true);
         x.fail();
         due.is("on()", x.on(), false);
@@ -445,7 +445,7 @@ public final class PromisesTest {
 
     private static void lost() {
         due.part("promise 12");
-        FadeLedger x = new FadeLedger();
+        Ledger x = new Ledger();
         x.failAfter(1);
         x.balance(1);
         due.is("lost(1) before a mount", x.lost(1), 0);
@@ -466,7 +466,7 @@ public final class PromisesTest {
         due.is("lost(1)", x.lost(1), 3);
         x.mount();
         due.is("lost(1)", x.lost(1), 0);
-        loseCell(x, 19);
+        due.loseCell(x, 19);
         due.is("lost(19)", x.lost(19), 4);
         for (int none : new int[] {-1, 20, MAX, MIN}) {
             due.answers("lost(" + none + ")", () -> x.lost(none), 0);
@@ -475,21 +475,21 @@ public final class PromisesTest {
 
     private static void word() {
         due.part("promise 13");
-        FadeLedger x = new FadeLedger();
+        Ledger x = new Ledger();
         x.open(5, -3);
         x.failAfter(1);
         x.balance(5);
         due.is("word(0, 5)", x.word(0, 5), 0);
         due.is("word(3, 5)", x.word(3, 5), Words.of(-3, 1));
         due.is("word(3, 5) again", x.word(3, 5), Words.of(-3, 1));
-        turns(x, 2, 4);
+        due.turns(x, 2, 4);
         for (int none : new int[] {-1, 4, 5, MAX, MIN}) {
             due.answers("word(" + none + ", 5)", () -> x.word(none, 5), 0);
         }
         for (int none : new int[] {-1, 20, 21, MAX, MIN}) {
             due.answers("word(1, " + none + ")", () -> x.word(1, none), 0);
         }
-        FadeLedger y = new FadeLedger();
+        Ledger y = new Ledger();
         y.open(0, -1);
         due.is("word with a sum above 251", y.word(0, 0), Words.of(-1, 1));
         y.open(1, 250);
@@ -500,7 +500,7 @@ public final class PromisesTest {
 
     private static void done() {
         due.part("promise 14");
-        FadeLedger x = new FadeLedger();
+        Ledger x = new Ledger();
         x.open(0, 9);
         due.is("done(0)", x.done(0), 1);
         due.is("done(1)", x.done(1), 4);
@@ -522,7 +522,7 @@ public final class PromisesTest {
     }
 
     private interface OfLedger {
-        long ask(FadeLedger ledger, int account);
+        long ask(Ledger ledger, int account);
     }
 
     private static void noAccount(String call, OfAccount asked, long want) {
@@ -532,93 +532,36 @@ public final class PromisesTest {
     }
 
     private static void noTurn(String call, OfLedger asked, long want) {
-        FadeLedger x = new FadeLedger();
+        Ledger x = new Ledger();
         x.failAfter(0);
         due.is(call + " of no account", asked.ask(x, 16), want);
         due.is("on()", x.on(), true);
         x.fail();
         due.is(call + " of no account, power off", asked.ask(x, -1), want);
-        turns(x, 0, 0);
+        due.turns(x, 0, 0);
     }
 
     private static void lostAccount(String call, OfLedger asked, long want) {
-        FadeLedger x = new FadeLedger();
-        loseCell(x, 2);
-        int reads = x.done(0);
-        int writes = x.done(1);
-        due.is(call + " of a lost account", asked.ask(x, 2), want);
-        turns(x, reads + 1, writes + 1);
-        allPlanes(x, 2, 0);
+        Ledger x = new Ledger();
+        due.loseCell(x, 2);
+        due.leaves(x, 1, call + " of a lost account", () -> asked.ask(x, 2), want);
     }
 
-    private static void refusedAfterLooking(FadeLedger x, int from, int to, int amount) {
-        long[][] words = wordsOf(x);
-        int reads = x.done(0);
-        int writes = x.done(1);
-        String call = "transfer(" + from + ", " + to + ", " + amount + ")";
-        due.is(call, x.transfer(from, to, amount), NONE);
-        turns(x, reads + 3, writes + 3);
-        sameWords(call, x, words);
+    private static void refusedAfterLooking(Ledger x, int from, int to, int amount) {
+        due.leaves(x, 3, "transfer(" + from + ", " + to + ", " + amount + ")", () -> x.transfer(from, to, amount), NONE);
     }
 
-    private static void refusedAtOnce(FadeLedger x, int from, int to, int amount) {
-        int reads = x.done(0);
-        int writes = x.done(1);
-        due.answers("transfer(" + from + ", " + to + ", " + amount + ")", () -> x.transfer(from, to, amount), NONE);
-        turns(x, reads, writes);
+    private static void refusedAtOnce(Ledger x, int from, int to, int amount) {
+        due.leaves(x, 0, "transfer(" + from + ", " + to + ", " + amount + ")", () -> x.transfer(from, to, amount), NONE);
     }
 
     /** A ledger with power off whose slip is written and whose accounts are not. */
-    private static FadeLedger pendingAfterSlip() {
-        FadeLedger x = new FadeLedger();
+    private static Ledger pendingAfterSlip() {
+        Ledger x = new Ledger();
         x.open(6, 20);
         x.open(11, 30);
         x.failAfter(22);
         x.transfer(6, 11, 9);
         return x;
-    }
-
-    /** Four mounts, each failing when it has read the cell on one plane more. */
-    private static void loseCellUnmounted(FadeLedger x, int cell) {
-        x.fail();
-        for (int plane = 0; plane < 4; plane++) {
-            x.failAfter(8 * cell + 2 * plane + 1);
-            due.is("mount() to lose a cell", x.mount(), OFF);
-        }
-    }
-
-    private static void loseCell(FadeLedger x, int cell) {
-        loseCellUnmounted(x, cell);
-        due.is("mount() behind it", x.mount(), 1);
-        due.is("lost(" + cell + ")", x.lost(cell), 4);
-    }
-
-    private static void turns(FadeLedger x, int reads, int writes) {
-        due.is("done(0)", x.done(0), reads);
-        due.is("done(1)", x.done(1), writes);
-    }
-
-    private static void allPlanes(FadeLedger x, int cell, long want) {
-        for (int plane = 0; plane < 4; plane++) {
-            due.is("word(" + plane + ", " + cell + ")", x.word(plane, cell), want);
-        }
-    }
-
-    private static long[][] wordsOf(FadeLedger x) {
-        long[][] words = new long[4][20];
-        for (int plane = 0; plane < 4; plane++) {
-            for (int cell = 0; cell < 20; cell++) {
-                words[plane][cell] = x.word(plane, cell);
-            }
-        }
-        return words;
-    }
-
-    private static void sameWords(String call, FadeLedger x, long[][] want) {
-        for (int plane = 0; plane < 4; plane++) {
-            for (int cell = 0; cell < 20; cell++) {
-                due.is(call + ": word(" + plane + ", " + cell + ")", x.word(plane, cell), want[plane][cell]);
-            }
-        }
     }
 }

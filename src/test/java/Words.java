@@ -35,17 +35,26 @@ final class Words {
         return sum % 251 + 1;
     }
 
-    /** Puts a word where no 512 calls could bring it; the planes lie one behind the other in the program. */
+    /** How the class holds its words is free: they can be planted if it has them plane behind plane in one array. */
+    static boolean canBePlanted() {
+        return memoryOf(new FadeLedger()) != null;
+    }
+
+    /** Puts a word where no 512 calls could bring it. */
     static void plant(FadeLedger ledger, int plane, int cell, long word) {
+        memoryOf(ledger)[plane * 20 + cell] = word;
+        if (ledger.word(plane, cell) != word) {
+            throw new IllegalStateException("the word was planted elsewhere");
+        }
+    }
+
+    private static long[] memoryOf(FadeLedger ledger) {
         try {
             Field memory = FadeLedger.class.getDeclaredField("memory");
             memory.setAccessible(true);
-            ((long[]) memory.get(ledger))[plane * 20 + cell] = word;
+            return memory.get(ledger) instanceof long[] words && words.length == 80 ? words : null;
         } catch (ReflectiveOperationException e) {
-            throw new IllegalStateException(e);
-        }
-        if (ledger.word(plane, cell) != word) {
-            throw new IllegalStateException("the word was planted elsewhere");
+            return null;
         }
     }
 
