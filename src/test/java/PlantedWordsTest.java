@@ -13,10 +13,6 @@ public final class PlantedWordsTest {
     }
 
     public static void main(String[] args) {
-        if (!Words.canBePlanted()) {
-            System.out.println("NOTHING TESTED: the class has no array 'memory' to plant words in; change Words.plant");
-            return;
-        }
         highestNumberToPost();
         highestNumberToTransfer();
         highestNumberOfTheSlip();
@@ -32,7 +28,7 @@ public final class PlantedWordsTest {
     private static void highestNumberToPost() {
         due.part("promise 4: its number is below 16777215");
         FadeLedger x = twoAccounts();
-        Words.plantAll(x, 2, Words.of(50, TOP - 1));
+        Planter.plantAll(x, 2, Words.of(50, TOP - 1));
         due.is("post(2, -51)", x.post(2, -51), 1);
         same(x, 2, Words.of(-1, TOP));
         due.is("number(2)", x.number(2), TOP);
@@ -45,16 +41,16 @@ public final class PlantedWordsTest {
     private static void highestNumberToTransfer() {
         due.part("promise 5: or its number is 16777215");
         FadeLedger x = twoAccounts();
-        Words.plantAll(x, 2, Words.of(50, TOP));
+        Planter.plantAll(x, 2, Words.of(50, TOP));
         leaves(x, 3, "transfer(2, 5, 1)", () -> x.transfer(2, 5, 1));
         leaves(x, 3, "transfer(5, 2, 1)", () -> x.transfer(5, 2, 1));
-        Words.plantAll(x, 2, Words.of(50, TOP - 1));
+        Planter.plantAll(x, 2, Words.of(50, TOP - 1));
         due.is("transfer(2, 5, 50)", x.transfer(2, 5, 50), 1);
         same(x, 2, Words.of(0, TOP));
         same(x, 17, Words.of(TOP, 1));
         same(x, 18, Words.of(2, 1));
         FadeLedger y = twoAccounts();
-        Words.plantAll(y, 5, Words.of(50, TOP - 1));
+        Planter.plantAll(y, 5, Words.of(50, TOP - 1));
         due.is("transfer(2, 5, 100)", y.transfer(2, 5, 100), 1);
         same(y, 5, Words.of(150, TOP));
         same(y, 17, Words.of(2, 1));
@@ -64,7 +60,7 @@ public final class PlantedWordsTest {
     private static void highestNumberOfTheSlip() {
         due.part("promise 5: cell 16 .. its number is 16777215");
         FadeLedger x = twoAccounts();
-        Words.plantAll(x, 16, Words.of(0, TOP - 1));
+        Planter.plantAll(x, 16, Words.of(0, TOP - 1));
         due.is("transfer(2, 5, 1)", x.transfer(2, 5, 1), 1);
         same(x, 16, Words.of(1, TOP));
         same(x, 17, Words.of(2, TOP));
@@ -79,12 +75,12 @@ public final class PlantedWordsTest {
     private static void highestNumberToFinish() {
         due.part("promise 10: a slip with the highest numbers");
         FadeLedger x = twoAccounts();
-        Words.plantAll(x, 2, Words.of(50, TOP - 1));
-        Words.plantAll(x, 5, Words.of(60, TOP));
-        Words.plantAll(x, 16, Words.of(50, TOP));
-        Words.plantAll(x, 17, Words.of(TOP, TOP));
-        Words.plantAll(x, 18, Words.of(TOP, TOP));
-        Words.plantAll(x, 19, Words.of(PENDING, TOP));
+        Planter.plantAll(x, 2, Words.of(50, TOP - 1));
+        Planter.plantAll(x, 5, Words.of(60, TOP));
+        Planter.plantAll(x, 16, Words.of(50, TOP));
+        Planter.plantAll(x, 17, Words.of(TOP, TOP));
+        Planter.plantAll(x, 18, Words.of(TOP, TOP));
+        Planter.plantAll(x, 19, Words.of(PENDING, TOP));
         due.is("mount()", x.mount(), 1);
         same(x, 2, Words.of(0, TOP));
         same(x, 5, Words.of(60, TOP));
@@ -110,7 +106,7 @@ public final class PlantedWordsTest {
         for (int bit = 0; bit < 8; bit++) {
             FadeLedger x = new FadeLedger();
             long bad = good ^ (1L << bit);
-            Words.plant(x, 0, 4, bad);
+            Planter.plant(x, 0, 4, bad);
             due.is("balance(4)", x.balance(4), FadeLedger.LOST);
             due.is("number(4)", x.number(4), NONE);
             due.is("open(4, 1)", x.open(4, 1), NONE);
@@ -118,7 +114,7 @@ public final class PlantedWordsTest {
             due.is("total()", x.total(), 0);
             due.is("word(0, 4) is written back", x.word(0, 4), bad);
             due.is("word(1, 4)", x.word(1, 4), Words.of(0, 0));
-            Words.plantAll(x, 4, bad);
+            Planter.plantAll(x, 4, bad);
             due.is("mount()", x.mount(), 1);
             same(x, 4, bad);
             due.is("lost(4)", x.lost(4), 4);
@@ -128,7 +124,7 @@ public final class PlantedWordsTest {
     private static void unopenedWithABalance() {
         due.part("unopened, with a balance");
         FadeLedger x = twoAccounts();
-        Words.plantAll(x, 4, Words.of(9, 0));
+        Planter.plantAll(x, 4, Words.of(9, 0));
         due.is("total()", x.total(), 110);
         due.is("balance(4)", x.balance(4), FadeLedger.UNOPENED);
         due.is("post(4, 1)", x.post(4, 1), NONE);
@@ -147,7 +143,7 @@ public final class PlantedWordsTest {
             int invalid = 0;
             for (int plane = 0; plane < 4; plane++) {
                 long word = words[choice >> (3 * plane) & 7];
-                Words.plant(x, plane, 9, word);
+                Planter.plant(x, plane, 9, word);
                 best = better(best, word);
                 invalid += Words.valid(word) ? 0 : 1;
             }
@@ -180,8 +176,8 @@ public final class PlantedWordsTest {
             plantSlip(x, 30, 8, 9, PENDING);
             long first = Words.of(100, done % 2 == 0 ? 7 : 8);
             long second = Words.of(10, done / 2 == 0 ? 1 : 9);
-            Words.plantAll(x, 2, first);
-            Words.plantAll(x, 5, second);
+            Planter.plantAll(x, 2, first);
+            Planter.plantAll(x, 5, second);
             due.is("mount()", x.mount(), 1);
             same(x, 2, done % 2 == 0 ? Words.of(70, 8) : first);
             same(x, 5, done / 2 == 0 ? Words.of(40, 9) : second);
@@ -192,8 +188,8 @@ public final class PlantedWordsTest {
             plantSlip(x, 30, 8, 9, PENDING);
             long first = lost % 2 == 0 ? Words.of(100, 7) : 0;
             long second = lost / 2 == 0 ? Words.of(10, 1) : Words.of(10, 1) ^ 2;
-            Words.plantAll(x, 2, first);
-            Words.plantAll(x, 5, second);
+            Planter.plantAll(x, 2, first);
+            Planter.plantAll(x, 5, second);
             due.is("mount()", x.mount(), 1);
             same(x, 2, lost % 2 == 0 ? Words.of(70, 8) : 0);
             same(x, 5, lost / 2 == 0 ? Words.of(40, 9) : second);
@@ -202,7 +198,7 @@ public final class PlantedWordsTest {
         FadeLedger y = twoAccounts();
         plantSlip(y, 30, 8, 9, PENDING);
         for (int cell = 16; cell < 20; cell++) {
-            Words.plant(y, cell - 16, cell, 0);
+            Planter.plant(y, cell - 16, cell, 0);
         }
         due.is("mount() by the slip's best words", y.mount(), 1);
         same(y, 2, Words.of(70, 8));
@@ -221,13 +217,13 @@ public final class PlantedWordsTest {
         for (int cell = 16; cell < 20; cell++) {
             FadeLedger x = twoAccounts();
             plantSlip(x, 30, 8, 9, PENDING);
-            Words.plantAll(x, cell, Words.of(Words.balance(x.word(0, cell)), 3));
+            Planter.plantAll(x, cell, Words.of(Words.balance(x.word(0, cell)), 3));
             leftAsItIs(x);
             plantSlip(x, 30, 8, 9, PENDING);
-            Words.plantAll(x, cell, Words.of(Words.balance(x.word(0, cell)), 5));
+            Planter.plantAll(x, cell, Words.of(Words.balance(x.word(0, cell)), 5));
             leftAsItIs(x);
             plantSlip(x, 30, 8, 9, PENDING);
-            Words.plantAll(x, cell, x.word(0, cell) ^ 1);
+            Planter.plantAll(x, cell, x.word(0, cell) ^ 1);
             leftAsItIs(x);
         }
     }
@@ -258,10 +254,10 @@ public final class PlantedWordsTest {
     }
 
     private static void plantSlip(FadeLedger x, int amount, int fromNumber, int toNumber, int route) {
-        Words.plantAll(x, 16, Words.of(amount, 4));
-        Words.plantAll(x, 17, Words.of(fromNumber, 4));
-        Words.plantAll(x, 18, Words.of(toNumber, 4));
-        Words.plantAll(x, 19, Words.of(route, 4));
+        Planter.plantAll(x, 16, Words.of(amount, 4));
+        Planter.plantAll(x, 17, Words.of(fromNumber, 4));
+        Planter.plantAll(x, 18, Words.of(toNumber, 4));
+        Planter.plantAll(x, 19, Words.of(route, 4));
     }
 
     private static void same(FadeLedger x, int cell, long want) {
